@@ -116,7 +116,7 @@ public final class AdvertsTest {
         EarPaper x = new EarPaper();
         Due.is(36, x.order(0, 1, 2, 221), 1012);
         Due.is(36, x.order(2, 1, 0, 221), 1212);
-        int[][] sorts = {{0, 1, 2}, {9, 0, 5}, {4, 8, 6}};
+        int[][] sorts = {{0, 1, 2}, {9, 0, 5}, {0, 9, 5}, {8, 4, 9}};
         for (int[] three : sorts) {
             for (int numbers = 0; numbers <= 555; numbers++) {
                 int[] many = {numbers / 100, numbers / 10 % 10, numbers % 10};
@@ -162,6 +162,8 @@ public final class AdvertsTest {
         checked(x, 4, -9, 4);
         checked(x, 4, -9);
         checked(x, 0, 0, -32768);
+        checked(x, 3, -1, 6, 4, 0);
+        x.judge();
         checked(x, 0, -1, 0, 3, 6, 6, 4, 4);
         Due.is(37, x.count(10), 6);
         Due.is(37, x.check(5), -1);
@@ -173,7 +175,7 @@ public final class AdvertsTest {
         Due.is(37, x.check(5), -9);
         Due.is(37, x.check(Integer.MAX_VALUE), -1);
         Due.is(37, x.check(Integer.MIN_VALUE), -1);
-        Due.is(37, x.count(11), 7);
+        Due.is(37, x.count(11), 8);
     }
 
     private static void checked(EarPaper x, int minute, int due, int... row) {

@@ -36,10 +36,7 @@ public final class FaceTest {
         Due.holds("the class is public and final", Modifier.isPublic(EarPaper.class.getModifiers())
             && Modifier.isFinal(EarPaper.class.getModifiers()));
         Set<String> due = new TreeSet<>(Arrays.asList(FACE));
-        Set<String> names = new TreeSet<>();
-        for (String one : FACE) {
-            names.add(one.substring(one.indexOf(' ') + 1, one.indexOf('(')));
-        }
+        Set<String> names = publicNames();
         for (Method one : EarPaper.class.getDeclaredMethods()) {
             if (Modifier.isPublic(one.getModifiers())) {
                 Due.holds(one + " is of the face", due.remove(signature(one)));
@@ -57,6 +54,14 @@ public final class FaceTest {
             && Modifier.isPublic(made[0].getModifiers()));
     }
 
+    private static Set<String> publicNames() {
+        Set<String> names = new TreeSet<>();
+        for (String one : FACE) {
+            names.add(one.substring(one.indexOf(' ') + 1, one.indexOf('(')));
+        }
+        return names;
+    }
+
     private static String signature(Method one) {
         StringBuilder text = new StringBuilder(one.getReturnType().getName() + " " + one.getName() + "(");
         for (Class<?> kind : one.getParameterTypes()) {
@@ -69,6 +74,9 @@ public final class FaceTest {
         Class<?>[] inside = EarPaper.class.getDeclaredClasses();
         Due.holds("some twelve classes", inside.length <= 12);
         for (Class<?> one : inside) {
+            for (Method method : one.getDeclaredMethods()) {
+                Due.holds(method + " bears no public name", !publicNames().contains(method.getName()));
+            }
             Due.holds(one + " is static", Modifier.isStatic(one.getModifiers()));
             Due.holds(one + " has some twenty fields",
                 Arrays.stream(one.getDeclaredFields()).filter(FaceTest::isOfAnObject).count() <= 20);

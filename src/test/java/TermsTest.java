@@ -334,5 +334,15 @@ public final class TermsTest {
         x.pass(1);
         Due.is(21, x.account(59, 60), 1);
         Due.is(21, x.account(1439, 1440), 23 - (3001 - 1439) - (3001 - 1440));
+        x = new EarPaper();
+        told(x, "3", 1, 10);
+        told(x, "4", 1, 59);
+        told(x, "1", 0, 11);
+        x.pass(100);
+        Due.is(21, x.account(0, 9), 0);
+        Due.is(21, x.account(0, 10), 3);
+        Due.is(21, x.account(0, 58), 49 * 3 - 48);
+        Due.is(21, x.account(0, 59), 49 * 3 + 4 - 49);
+        Due.is(21, x.account(0, 99), 49 * 3 + 41 * 4 - 89);
     }
 }
