@@ -437,7 +437,7 @@ public final class EarPaper {
         if (wrong != 0 || span == null) {
             return refuse(wrong);
         }
-        net.markReachable(span, minute, voice);
+        net.findListeners(span, minute, voice);
         return net.covered(hours);
     }
 
@@ -451,7 +451,7 @@ public final class EarPaper {
             return refuse(ROOM);
         }
         int wanted = worthIn(RIGHTED, span, minute);
-        net.markReachable(span, minute, voice);
+        net.findListeners(span, minute, voice);
         return net.fewestHours(hours, wanted);
     }
 
@@ -895,7 +895,6 @@ public final class EarPaper {
         final int surely;
         final int maybe;
         boolean complains;
-        boolean reachable;
 
         Home(Node at, int ears, int surely, int maybe) {
             this.at = at;
@@ -919,6 +918,8 @@ public final class EarPaper {
         int least = 10;
         int sure;
         int most;
+        /** For each hour the homes, as bits, that would surely hear a correction in it. */
+        final long[] listeners = new long[DAY_HOURS];
 
         Net() {
             nodes.add(new Node(null, 0, 0));
@@ -1031,14 +1032,17 @@ public final class EarPaper {
         }
 
         int fewestBoosts(int voice) {
+            int all = (1 << Math.min(chances.size(), MOST_CHANCES)) - 1;
             int fewest = MOST_NODES;
             int best = NONE;
-            int sets = 1 << Math.min(chances.size(), MOST_CHANCES);
-            for (int set = 0; set < sets; set++) {
-                int size = Integer.bitCount(set);
-                if (size < fewest && allReachedWith(set, voice)) {
-                    fewest = size;
-                    best = set;
+            // A boost more never makes a node less loud: where all of them fail, each set does.
+            if (allReachedWith(all, voice)) {
+                for (int set = 0; set <= all; set++) {
+                    int size = Integer.bitCount(set);
+                    if (size < fewest && allReachedWith(set, voice)) {
+                        fewest = size;
+                        best = set;
+                    }
                 }
             }
             raise(0);
@@ -1063,27 +1067,40 @@ public final class EarPaper {
             return true;
         }
 
-        /** Marks the homes that heard a minute maybe and would hear a correction of it. */
-        void markReachable(Span span, int minute, int voice) {
+        /** Fills the listeners with homes that heard a minute maybe and would hear a correction of it. */
+        void findListeners(Span span, int minute, int voice) {
             carry(span.voice, span.weather, minute);
+            long heardBy = 0;
             for (int i = 0; i < homes.size(); i++) {
-                Home one = homes.get(i);
-                one.reachable = howHeard(one, span, minute) > 0;
+                heardBy |= howHeard(homes.get(i), span, minute) > 0 ? 1L << i : 0;
             }
             carry(voice, weather, NO_MINUTE);
+            Arrays.fill(listeners, 0L);
             for (int i = 0; i < homes.size(); i++) {
                 Home one = homes.get(i);
-                one.reachable = one.reachable && one.isReached(least);
+                if ((heardBy >> i & 1) != 0 && one.isReached(least)) {
+                    addListener(one.surely, 1L << i);
+                }
+            }
+        }
+
+        private void addListener(int hours, long bit) {
+            for (int hour = 0; hour < listeners.length; hour++) {
+                listeners[hour] |= (hours >> hour & 1) != 0 ? bit : 0;
             }
         }
 
         int covered(int hours) {
-            int sum = 0;
-            for (int i = 0; i < homes.size(); i++) {
-                Home one = homes.get(i);
-                sum += one.reachable && (one.surely & hours) != 0 ? 1 : 0;
+            long all = 0;
+            int left = hours;
+            for (int turn = 0; turn < DAY_HOURS && left != 0; turn++) {
+                int hour = Integer.bitCount((left & -left) - 1);
+                if (hour >= 0 && hour < listeners.length) {
+                    all |= listeners[hour];
+                }
+                left &= left - 1;
             }
-            return sum;
+            return Long.bitCount(all);
         }
 
         int fewestHours(int hours, int wanted) {
