@@ -10,9 +10,7 @@ final class Due {
         asked++;
         if (got != want) {
             wrong++;
-            StackTraceElement at = new Throwable().getStackTrace()[1];
-            System.out.println("promise " + promise + ", " + at.getFileName() + ":" + at.getLineNumber()
-                + ": answered " + got + ", due is " + want);
+            System.out.println("promise " + promise + ", " + place() + ": answered " + got + ", due is " + want);
         }
     }
 
@@ -24,11 +22,26 @@ final class Due {
         }
     }
 
+    static int asked() {
+        return asked;
+    }
+
     static void end() {
         System.out.println(asked + " answers, " + wrong + " wrong");
         if (wrong != 0) {
             System.exit(1);
         }
+    }
+
+    /** The line of the test that asked, not that of a helper between. */
+    private static String place() {
+        for (StackTraceElement at : new Throwable().getStackTrace()) {
+            String name = at.getClassName();
+            if (!name.equals("Due") && !name.equals("Edge")) {
+                return at.getFileName() + ":" + at.getLineNumber();
+            }
+        }
+        return "nowhere";
     }
 
     /** Feeds a text to the tape, eight bytes at most a call. */
