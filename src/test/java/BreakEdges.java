@@ -126,6 +126,14 @@ final class BreakEdges {
         x.complain(2, true);
         x.complain(0, true);
         told(x, -9, -9, -9);
+        EarPaper y = chain(2);
+        y.home(1, 1, 0, 0);
+        y.home(2, 1, 0, 0);
+        y.complain(1, true);
+        told(y, 1, 1, 4);
+        y.complain(1, false);
+        y.complain(0, true);
+        told(y, -9, -9, -9);
     }
 
     private static void rivals() {
@@ -391,6 +399,7 @@ final class BreakEdges {
         x.could(1, 99);
         x.least(99);
         Edge.is(x.boosts(1), -9);
+        Edge.is(x.loud(1, 2), 1);
         Edge.is(x.boosts(2), 1);
         Edge.is(x.boosts(99), 1);
         Edge.is(x.boosts(100), 0);
@@ -399,6 +408,7 @@ final class BreakEdges {
         Edge.is(x.loud(1, 2), 1);
         x.home(0, 1, 0, 0);
         Edge.is(x.boosts(98), -9);
+        Edge.is(x.loud(1, 2), 1);
         Edge.is(x.boosts(99), 1);
     }
 

@@ -1,20 +1,15 @@
-import java.lang.reflect.Method;
-import java.util.ArrayList;
-import java.util.List;
 import java.util.Random;
 
-/** Random runs of 512 calls, the program side by side with the plain model; the seeds are fixed. */
+/** Random runs of calls, the program side by side with the plain model; the seeds are fixed. */
 public final class ModelTest {
-    private static final int RUNS = 400;
+    private static final int RUNS = 800;
     private static final int[] EDGES = {Integer.MIN_VALUE, -32769, -32768, -2, -1, 0, 1, 2, 5, 8, 9, 10, 20, 21, 40,
         60, 99, 100, 240, 241, 555, 998, 999, 1000, 9998, 9999, 10000, 32767, 32768, 16777215, 16777216,
         Integer.MAX_VALUE};
     private static final String SIGNS = "khvsmwan0123456789+-*/()<=>";
     private final Random random;
-    private final EarPaper program = new EarPaper();
-    private final PlainPaper model = new PlainPaper();
-    private final List<String> told = new ArrayList<>();
-    private int calls;
+    private final Twins twins = new Twins();
+    private final PlainPaper model = twins.model;
 
     private ModelTest(long seed) {
         random = new Random(seed);
@@ -29,17 +24,17 @@ public final class ModelTest {
     }
 
     private void run(int run) throws Exception {
-        boolean built = run % 4 != 0;
-        if (built) {
+        if (run % 4 != 0) {
             build();
         }
-        while (calls < 512) {
-            boolean right = random.nextInt(12) == 0 ? text() : one();
-            if (!right) {
-                System.out.println("run " + run + " ends: " + told.subList(Math.max(0, told.size() - 12), told.size()));
-                return;
+        while (!twins.isOver()) {
+            if (random.nextInt(12) == 0) {
+                text();
+            } else {
+                one();
             }
         }
+        twins.end("run " + run);
     }
 
     private void build() throws Exception {
@@ -57,7 +52,7 @@ public final class ModelTest {
         }
     }
 
-    private boolean text() throws Exception {
+    private void text() throws Exception {
         String text = random.nextInt(3) == 0 ? junk() : sum(3);
         for (int from = 0; from < text.length() && from < 60; from += 8) {
             int n = Math.min(8, text.length() - from);
@@ -65,11 +60,9 @@ public final class ModelTest {
             for (int i = n - 1; i >= 0; i--) {
                 bytes = bytes << 8 | text.charAt(from + i);
             }
-            if (!call("feed", n, bytes)) {
-                return false;
-            }
+            call("feed", n, bytes);
         }
-        return call("term", random.nextInt(4), program.count(0) + random.nextInt(20));
+        call("term", random.nextInt(4), model.count(0) + random.nextInt(20));
     }
 
     private String junk() {
@@ -109,20 +102,20 @@ public final class ModelTest {
     }
 
     private int minute() {
-        int now = program.count(0);
+        int now = model.count(0);
         return any(now - 1 - random.nextInt(10), random.nextInt(now + 1), now - 1);
     }
 
     private int later() {
-        return any(program.count(0) + random.nextInt(30));
+        return any(model.count(0) + random.nextInt(30));
     }
 
     private int aNode() {
-        return below(program.count(1));
+        return below(model.count(1));
     }
 
     private int aHome() {
-        return below(program.count(2));
+        return below(model.count(2));
     }
 
     private int voice() {
@@ -134,98 +127,101 @@ public final class ModelTest {
             random.nextInt(4096));
     }
 
-    private boolean one() throws Exception {
-        switch (random.nextInt(40)) {
-            case 0: return call("pass", any(1, 2, 7, 50, random.nextInt(20) == 0 ? 3000 : 3));
-            case 1: return call("node", aNode(), any(1 + random.nextInt(30)));
-            case 2: return call("boost", aNode(), any(random.nextInt(100)));
-            case 3: return call("weather", any(random.nextInt(21)));
-            case 4: {
-                int from = later();
-                return call("cut", aNode(), from, random.nextInt(9) == 0 ? later() : from + random.nextInt(9));
-            }
-            case 5: return call("loud", aNode(), voice());
-            case 6: return call("home", aNode(), any(1 + random.nextInt(9)), hours(), hours());
-            case 7: return call("least", any(1 + random.nextInt(30), 10));
-            case 8: return call("hears", aHome(), voice());
-            case 9: return call("reader", voice());
-            case 10: return call("rests", any(1 + random.nextInt(5), 240), any(random.nextInt(6)));
-            case 11: return call("mayRead", below(program.count(3)));
-            case 12:
-            case 13:
-            case 14:
-            case 15:
-            case 16: {
-                int kind = any(0, 1, 2, 4, 5, 0, 3);
-                int of = kind == 0 ? random.nextBoolean() ? -1 : below(program.count(6)) : minute();
-                return call("say", kind, below(program.count(3)), of);
-            }
-            case 17: return call("stage", voice());
-            case 18: return call("minuteOf", minute(), below(7));
-            case 19: return call("heard", minute(), aHome());
-            case 20: return call("feed", any(1 + random.nextInt(8)), random.nextLong());
-            case 21: return call("term", below(4), later());
-            case 22: return call("worth", below(3), minute());
-            case 23: {
-                int a = minute();
-                return call("account", a, random.nextInt(5) == 0 ? minute() : a + random.nextInt(40));
-            }
-            case 24:
-            case 25: return call("complain", aHome(), random.nextBoolean());
-            case 26: return call("breaks", below(3));
-            case 27: return call("could", aNode(), any(1 + random.nextInt(60)));
-            case 28: return call("boosts", voice());
-            case 29: return call("covers", minute(), hours(), voice());
-            case 30: return call("rights", minute(), hours(), voice());
-            case 31: return call("news", random.nextBoolean());
-            case 32: return call("printed", below(program.count(6)), later());
-            case 33: return call("lag", minute());
-            case 34: return call("fresh", minute());
-            case 35: return call("advert", below(10));
-            case 36: return call("sold", below(1 + program.count(7) / 5), below(5));
-            case 37: return call("put", any(random.nextInt(7), random.nextInt(10), random.nextInt(65536) - 32768));
-            case 38: return random.nextInt(4) == 0 ? log() : call(random.nextBoolean() ? "judge" : "count", what());
-            default: return call("order", below(10), below(10), below(10), any(random.nextInt(556), 221, 311, 122, 320));
+    private void one() throws Exception {
+        switch (random.nextInt(5)) {
+            case 0 -> net();
+            case 1 -> say();
+            case 2 -> ask();
+            case 3 -> search();
+            default -> news();
         }
     }
 
-    private Object[] what() {
-        return new Object[] {below(19)};
+    private void net() throws Exception {
+        switch (random.nextInt(9)) {
+            case 0 -> call("node", aNode(), any(1 + random.nextInt(30)));
+            case 1 -> call("boost", aNode(), any(random.nextInt(100)));
+            case 2 -> call("weather", any(random.nextInt(21)));
+            case 3 -> {
+                int from = later();
+                call("cut", aNode(), from, random.nextInt(9) == 0 ? later() : from + random.nextInt(9));
+            }
+            case 4 -> call("loud", aNode(), voice());
+            case 5 -> call("home", aNode(), any(1 + random.nextInt(9)), hours(), hours());
+            case 6 -> call("least", any(1 + random.nextInt(30), 10));
+            case 7 -> call("hears", aHome(), voice());
+            default -> call("reader", voice());
+        }
+    }
+
+    private void say() throws Exception {
+        switch (random.nextInt(8)) {
+            case 0 -> call("pass", any(1, 2, 7, 50, random.nextInt(20) == 0 ? 3000 : 3));
+            case 1 -> call("rests", any(1 + random.nextInt(5), 240), any(random.nextInt(6)));
+            case 2 -> call("stage", voice());
+            default -> {
+                int kind = any(0, 1, 2, 4, 5, 0, 3);
+                int of = kind != 0 ? minute() : random.nextBoolean() ? -1 : below(model.count(6));
+                call("say", kind, below(model.count(3)), of);
+            }
+        }
+    }
+
+    private void ask() throws Exception {
+        switch (random.nextInt(7)) {
+            case 0 -> call("mayRead", below(model.count(3)));
+            case 1 -> call("minuteOf", minute(), below(7));
+            case 2 -> call("heard", minute(), aHome());
+            case 3 -> call("feed", any(1 + random.nextInt(8)), random.nextLong());
+            case 4 -> call("term", below(4), later());
+            case 5 -> call("worth", below(3), minute());
+            default -> {
+                int a = minute();
+                call("account", a, random.nextInt(5) == 0 ? minute() : a + random.nextInt(40));
+            }
+        }
+    }
+
+    private void search() throws Exception {
+        switch (random.nextInt(7)) {
+            case 0 -> call("breaks", below(3));
+            case 1 -> call("could", aNode(), any(1 + random.nextInt(60)));
+            case 2 -> call("boosts", voice());
+            case 3 -> call("covers", minute(), hours(), voice());
+            case 4 -> call("rights", minute(), hours(), voice());
+            default -> call("complain", aHome(), random.nextBoolean());
+        }
+    }
+
+    private void news() throws Exception {
+        switch (random.nextInt(11)) {
+            case 0 -> call("news", random.nextBoolean());
+            case 1 -> call("printed", below(model.count(6)), later());
+            case 2 -> call("lag", minute());
+            case 3 -> call("fresh", minute());
+            case 4 -> call("advert", below(10));
+            case 5 -> call("sold", below(1 + model.count(7) / 5), below(5));
+            case 6 -> call("put", any(random.nextInt(7), random.nextInt(10), random.nextInt(65536) - 32768));
+            case 7 -> call("judge");
+            case 8 -> call("count", below(19));
+            case 9 -> log();
+            default -> call("order", below(10), below(10), below(10), any(random.nextInt(556), 221, 311, 122, 320));
+        }
     }
 
     /** A log that is right up to its last number, or beyond. */
-    private boolean log() throws Exception {
+    private void log() throws Exception {
         int from = minute();
-        for (int i = random.nextInt(5); i >= 0; i--) {
-            int kind = program.minuteOf(from, 0);
-            model.minuteOf(from, 0);
-            if (!call("put", kind < 0 ? 3 : kind)) {
-                return false;
-            }
+        int now = model.count(0);
+        int length = random.nextInt(6);
+        for (int i = 0; i < length; i++) {
+            int minute = from + i;
+            call("put", minute >= 0 && minute < now ? model.minuteOf(minute, 0) : 3);
         }
-        return call("check", from);
+        call("check", from);
     }
 
-    private boolean call(String name, Object... given) throws Exception {
-        Object[] args = name.equals("judge") ? new Object[0] : given;
-        calls++;
-        long got = answer(program, EarPaper.class, name, args);
-        long due = answer(model, PlainPaper.class, name, args);
-        told.add(name + java.util.Arrays.toString(args) + " " + got + (got == due ? "" : ", due is " + due));
-        boolean right = got == due;
-        for (int what = 0; what < 20; what++) {
-            right &= program.count(what) == model.count(what);
-        }
-        Due.holds(told.get(told.size() - 1), right);
-        return right;
-    }
-
-    private static long answer(Object on, Class<?> kind, String name, Object[] args) throws Exception {
-        for (Method method : kind.getDeclaredMethods()) {
-            if (method.getName().equals(name) && method.getParameterCount() == args.length) {
-                return ((Number) method.invoke(on, args)).longValue();
-            }
-        }
-        throw new IllegalStateException(name);
+    private void call(String name, Object... args) throws Exception {
+        twins.call(name, args);
     }
 }

@@ -50,6 +50,7 @@ final class TextEdges {
         Edge.of(at, "k KIND, h HOUR, v VOICE (0 DEAD), s SURE, m MOST, w WEATHER, a MINUTES since then, n how many HOMES "
             + "there are.", TextEdges::letters);
         Edge.of(at, "TERMS (30 at most):", TextEdges::many);
+        Edge.of(at, "TERMS (30 at most):", TextEdges::manyLongOnes);
         Edge.of(at, "a TEXT for a PURPOSE from a MINUTE on (now or later):", TextEdges::nowOrLater);
         Edge.of(at, "0 OWED (what a MINUTE costs the house), 1 PAID (what it brings), 2 RIGHTED (how many HOMES must "
             + "surely hear a correction of it),", TextEdges::purposes);
@@ -59,6 +60,7 @@ final class TextEdges {
         Edge.of(at, "Without one: 0, 0, MOST, 1.", TextEdges::without);
         Edge.of(at, "ACCOUNT of MINUTES from a to b: PAID less OWED of each, by the TERMS of that MINUTE.",
             TextEdges::accounts);
+        Edge.of(at, "PAID less OWED of each, by the TERMS of that MINUTE.", TextEdges::accountsInParts);
     }
 
     // ---- helpers ----
@@ -281,6 +283,13 @@ final class TextEdges {
         x.home(0, 1, 0, 0);
         x.pass(9);
         Edge.is(x.worth(0, minute), 4010);
+        // The weather is that of the minute, not of now.
+        told(x, "w", 0, x.count(0));
+        x.pass(1);
+        x.weather(3);
+        x.pass(1);
+        Edge.is(x.worth(0, x.count(0) - 2), 9);
+        Edge.is(x.worth(0, x.count(0) - 1), 3);
     }
 
     private static void many() {
@@ -293,6 +302,18 @@ final class TextEdges {
         x.pass(1);
         Edge.is(x.worth(0, 0), 8);
         Edge.is(x.count(5), 30);
+    }
+
+    /** Each of them whole, however much was told ahead of it. */
+    private static void manyLongOnes() {
+        EarPaper x = new EarPaper();
+        for (int i = 0; i < 30; i++) {
+            Edge.is(told(x, "(" + i + "+1)*100-9/4-1/1+n*n", 0, i), i + 1);
+        }
+        x.pass(30);
+        for (int i = 0; i < 30; i++) {
+            Edge.is(x.worth(0, i), 100 * (i + 1) - 3);
+        }
     }
 
     private static void nowOrLater() {
@@ -357,13 +378,16 @@ final class TextEdges {
         Edge.is(alarmUnder("(w=7)"), 60);
         Edge.is(alarmUnder("(n=2)"), 60);
         Edge.is(alarmUnder("s+m+a"), -3);
-        // An alarm of before counts for nothing in it.
+        // What a minute of before was worth counts for nothing in it.
         EarPaper x = new EarPaper();
         x.home(0, 1, 1, 1);
         x.reader(50);
+        told(x, "s+m+a", 0, 0);
         x.say(2, 0, 0);
-        x.minuteOf(0, 4);
+        Edge.is(x.worth(0, 0), 3);
         told(x, "s+m+a", 3, 1);
+        Edge.is(x.say(2, 0, 0), -3);
+        Edge.is(x.worth(0, 0), 3);
         Edge.is(x.say(2, 0, 0), -3);
     }
 
@@ -421,6 +445,44 @@ final class TextEdges {
         Edge.is(x.account(2, 3), 194);
         Edge.is(x.account(0, 3), 211);
         Edge.is(x.account(3, 3), 97);
+    }
+
+    /** Minute by minute it is the same as in one sum: over hours, terms that begin, ages, and minutes of all kinds. */
+    private static void accountsInParts() {
+        EarPaper x = new EarPaper();
+        told(x, "1000", 1, 90);
+        told(x, "h*7+1", 1, 3);
+        told(x, "a*10+k", 0, 30);
+        told(x, "s*3+m+w+v", 1, 121);
+        told(x, "5", 0, 100);
+        x.home(0, 1, 5, 2);
+        x.home(0, 2, 1, 6);
+        x.pass(119);
+        x.stage(15);
+        x.weather(4);
+        x.stage(25);
+        x.stage(35);
+        x.pass(3);
+        long sum = 0;
+        for (int minute = 0; minute < 125; minute++) {
+            long one = x.worth(1, minute) - x.worth(0, minute);
+            Edge.is(one, paidLessOwed(minute));
+            sum += one;
+        }
+        Edge.is(x.account(0, 124), sum);
+        Edge.is(x.account(0, 59) + x.account(60, 124), sum);
+        Edge.is(x.account(0, 89) + x.account(90, 124), sum);
+        Edge.is(x.account(0, 120) + x.account(121, 124), sum);
+    }
+
+    private static long paidLessOwed(int minute) {
+        long paid = minute < 3 ? 0 : minute < 90 ? minute / 60 * 7 + 1 : 1000;
+        if (minute >= 121) {
+            // Minute 121 is the stage of 35, in hour 2: the first home hears surely, the other one maybe.
+            paid = minute == 121 ? 3 + 2 + 4 + 35 : 4;
+        }
+        long owed = minute < 30 ? 0 : minute < 100 ? (125 - minute) * 10 + 6 : 5;
+        return paid - owed;
     }
 
     // ---- promises 18 to 21 ----
