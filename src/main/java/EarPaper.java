@@ -349,7 +349,7 @@ public final class EarPaper {
         if (!stands) {
             return FAULT - place;
         }
-        terms.add(new Term(purpose, minute, Arrays.copyOf(tape.code, tape.codeLength)));
+        terms.add(new Term(purpose, minute, tape.madeCode()));
         return terms.size();
     }
 
@@ -1245,7 +1245,7 @@ public final class EarPaper {
         int place;
 
         void take(int one) {
-            if (length < bytes.length) {
+            if (length >= 0 && length < bytes.length) {
                 bytes[length] = one;
                 length++;
             }
@@ -1258,13 +1258,19 @@ public final class EarPaper {
             return parseSum(0) && place >= length;
         }
 
+        /** A copy, as the next text is turned into code in the same room. */
+        int[] madeCode() {
+            int made = Math.max(0, Math.min(codeLength, code.length));
+            return Arrays.copyOf(code, made);
+        }
+
         /** The byte at the place, which no sign equals at the end. */
         private int next() {
             return place >= 0 && place < length && place < bytes.length ? bytes[place] : -1;
         }
 
         private void emit(int one) {
-            if (codeLength < code.length) {
+            if (codeLength >= 0 && codeLength < code.length) {
                 code[codeLength] = one;
                 codeLength++;
             }
